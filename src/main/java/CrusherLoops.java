@@ -14,6 +14,7 @@ public final class CrusherLoops {
     private static final int MOST_TICKS = 5000;
     private static final int MOST_TICKS_A_RUN = 50;
     private static final int MOST_STEPS = 2000;
+    private static final int[] DIGEST_SHARES = {20, 50, 80, 100};
 
     private static final int LOAD_KIND = 0;
     private static final int LEAVES_KIND = 1;
@@ -290,6 +291,7 @@ public final class CrusherLoops {
         }
         if (plant.classes > 0) {
             h = withAll(h);
+            h = somethingLeaves() ? withShares(h) : h;
         }
         for (int k = 0; k < plant.classes; k++) {
             h = with(h, widest(k, 50));
@@ -323,7 +325,7 @@ public final class CrusherLoops {
         for (int what = 0; what <= 7; what++) {
             h = with(h, all(what));
         }
-        return somethingLeaves() ? withShares(h) : h;
+        return h;
     }
 
     private long withShares(long start) {
@@ -331,14 +333,10 @@ public final class CrusherLoops {
         for (int k = 0; k < plant.classes; k++) {
             h = with(with(h, finer(k, 0)), finer(k, 1));
         }
-        h = withAt(h, 20);
-        h = withAt(h, 50);
-        h = withAt(h, 80);
-        return withAt(h, 100);
-    }
-
-    private long withAt(long h, int percent) {
-        return with(with(h, at(percent, 0)), at(percent, 1));
+        for (int i = 0; i < DIGEST_SHARES.length; i++) {
+            h = with(with(h, at(DIGEST_SHARES[i], 0)), at(DIGEST_SHARES[i], 1));
+        }
+        return h;
     }
 
     private static long with(long h, long number) {
@@ -511,7 +509,7 @@ public final class CrusherLoops {
         }
 
         int feedOf(int k) {
-            return hasClass(k) ? feeds[k] : 0;
+            return k >= 0 && k < feeds.length ? feeds[k] : 0;
         }
 
         int feedOfAll() {
@@ -523,7 +521,7 @@ public final class CrusherLoops {
         }
 
         int tenthsOf(int from, int as) {
-            boolean known = hasClass(from) && hasClass(as) && as >= from;
+            boolean known = from >= 0 && from <= as && as < classes;
             return known ? tenths[from * MOST_CLASSES + as] : 0;
         }
 

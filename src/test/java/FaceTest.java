@@ -10,6 +10,10 @@ import java.util.ArrayList;
 import java.util.Arrays;
 import java.util.Collections;
 import java.util.List;
+import java.util.Map;
+import java.util.TreeMap;
+import java.util.regex.Matcher;
+import java.util.regex.Pattern;
 
 /** The class has the document's face and nothing more, and its text keeps clear of what LANGUAGE.md leaves out. */
 public final class FaceTest {
@@ -24,12 +28,17 @@ public final class FaceTest {
         "package ", "->", "::", "static {", "synchronized", "assert ", "finally", "Float.", "Double.", "System.out",
         "String.format", ".hashCode(", "Exact(", "static final double", "static final float", "Exception"};
 
+    private static final Pattern METHOD = Pattern.compile(
+            "(?m)^ +(?:public |private )?(?:static )?(?:int|long|void|boolean|double|float) (\\w+)\\(([^)]*)\\) \\{\n");
+    private static final Pattern CALL = Pattern.compile("(\\w+)\\(");
+
     private static final Checks CHECKS = new Checks();
 
     public static void main(String[] args) throws IOException {
         constants();
         face();
         text();
+        methods();
         CHECKS.end("FaceTest");
     }
 
@@ -89,5 +98,35 @@ public final class FaceTest {
             CHECKS.due("the text has '" + word + "'", text.contains(word) ? 1 : 0, 0);
         }
         CHECKS.due("signs above 127", text.chars().filter(sign -> sign > 127).count(), 0);
+    }
+
+    /** Rule 11: methods stay short, take few parameters, and calls go at most eight deep. */
+    private static void methods() throws IOException {
+        String text = Files.readString(Path.of("src/main/java/CrusherLoops.java"));
+        Map<String, String> bodies = new TreeMap<>();
+        Matcher method = METHOD.matcher(text);
+        while (method.find()) {
+            String indent = method.group().substring(0, method.group().indexOf(method.group().trim()));
+            String body = text.substring(method.end(), text.indexOf("\n" + indent + "}", method.end() - 1));
+            CHECKS.due("two methods named " + method.group(1), bodies.put(method.group(1), body) == null ? 1 : 0, 1);
+            CHECKS.due("lines of " + method.group(1) + " above 60", body.lines().count() > 60 ? 1 : 0, 0);
+            CHECKS.due("parameters above 7", method.group(2).split(",").length > 7 ? 1 : 0, 0);
+        }
+        CHECKS.due("methods are found", bodies.size() >= FACE.length - 6 ? 1 : 0, 1);
+        for (String name : bodies.keySet()) {
+            int depth = depth(bodies, name, 1);
+            CHECKS.due("calls from " + name + " go " + depth + " deep", depth > 8 ? 1 : 0, 0);
+        }
+    }
+
+    private static int depth(Map<String, String> bodies, String name, int ahead) {
+        int deepest = ahead;
+        Matcher call = CALL.matcher(bodies.get(name));
+        while (call.find() && ahead < 20) {
+            if (bodies.containsKey(call.group(1))) {
+                deepest = Math.max(deepest, depth(bodies, call.group(1), ahead + 1));
+            }
+        }
+        return deepest;
     }
 }
